@@ -227,22 +227,23 @@ public final class ActionTest {
         Check.due("empty() of empty bins", x.empty(), 0);
         x.drop(0, 60);
         x.drop(50, 20);
+        x.drop(99, 9);
         x.drop(50, 20);
         x.drop(0, 20);
-        Check.due("empty()", x.empty(), 2);
+        Check.due("empty()", x.empty(), 3);
         for (int k = 0; k <= 7; k++) {
             for (int what = 2; what <= 4; what++) {
                 Check.due("bin(" + k + ", " + what + ")", x.bin(k, what), 0);
             }
         }
         Check.due("about(11): the open pulse stays", x.about(11), 1);
-        Check.due("about(1)", x.about(1), 4);
-        Check.due("about(2)", x.about(2), 3);
-        Check.due("trueRain()", x.trueRain(), 216000 + 24000);
+        Check.due("about(1)", x.about(1), 5);
+        Check.due("about(2)", x.about(2), 4);
+        Check.due("trueRain()", x.trueRain(), 216000 + 24000 + 729);
         Check.due("rain(2)", x.rain(2), 0);
         x.pass(9);
         Check.due("empty() of the last pulse", x.empty(), 1);
-        Check.due("undo() of the last of eight actions", x.undo(), 7);
+        Check.due("undo() of the last of nine actions", x.undo(), 8);
         Check.due("about(6) after undo()", x.about(6), 1);
     }
 

@@ -254,6 +254,11 @@ public final class ReadingTest {
         Check.due("rain(0) of 3600", y.rain(0), 216000);
         Check.due("rain(1) of 4300", y.rain(1), 65 * 65 * 65);
         Check.due("rain(2) of 5000", y.rain(2), 343000);
+        int[][] roots = {{4095, 63}, {4096, 64}, {4224, 64}, {4225, 65}, {4899, 69}, {4900, 70}};
+        for (int[] row : roots) {
+            y.setBorder(7, row[0]);
+            Check.due("rain(0) of " + row[0], y.rain(0), (long) row[1] * row[1] * row[1]);
+        }
         y.setBorder(7, 5000);
         Check.due("rain(0) of 5000", y.rain(0), 343000);
     }

@@ -20,7 +20,7 @@ public final class ScriptTest {
 
     private static void scriptRange() {
         ImpactPlate x = new ImpactPlate();
-        long[][] wrong = {{0, 10010}, {4, 10010}, {-1, 0}, {Integer.MIN_VALUE, 0}, {Integer.MAX_VALUE, 0}, {1, -1},
+        long[][] wrong = {{0, 0}, {0, 10010}, {4, 10010}, {-1, 0}, {Integer.MIN_VALUE, 0}, {Integer.MAX_VALUE, 0}, {1, -1},
             {1, 100000}, {2, 10000000000L}, {3, 1000000000000000L}, {3, Long.MAX_VALUE}, {1, Long.MIN_VALUE},
             {1, -10010}, {0, -1}};
         for (long[] row : wrong) {
@@ -46,6 +46,13 @@ public final class ScriptTest {
         due(x, 3, 10510_10420_51002L, 2);
         due(x, 2, 10560_63000L, -9);
         due(x, 2, 10560_63001L, 1);
+        x.drop(0, 30);
+        due(x, 2, 10201_70001L, -9);
+        due(x, 2, 10301_70003L, -9);
+        due(x, 2, 10704_60450L, -9);
+        due(x, 2, 10704_60451L, 1);
+        due(x, 2, 10804_60225L, -9);
+        due(x, 2, 10804_60226L, 1);
     }
 
     private static void passes() {

@@ -63,7 +63,7 @@ public final class TextTest {
         Object[][] wrong = {{"X", 0}, {"p01", 0}, {"PP", 1}, {"P ", 1}, {"Px", 1}, {"P0", 1}, {"PD0001", 1},
             {"Pdx", 2}, {"Pd0x", 3}, {"Pd00x", 4}, {"Pd007", 4}, {"Pd0000", 5}, {"Pd0061", 5}, {"Pd006x", 5},
             {"Pd00010", 6}, {"Pp00", 3}, {"Pp0x", 3}, {"Ppx", 2}, {"Pp010", 4}, {"Pt41", 3}, {"Pt5", 2},
-            {"Pw21", 3}, {"Pw3", 2}, {"Pg0", 2}, {"Pgx", 2}, {"Pg10", 3}, {"Pg1 ", 3}, {"Pt/0", 2}, {"Pt:0", 2},
+            {"Pw21", 3}, {"Pw3", 2}, {"Pg0", 2}, {"Pgx", 2}, {"Pg10", 3}, {"Pg1 ", 3}, {"Pp1/", 3}, {"Pp1:", 3}, {"Pd001/", 5}, {"Pt/0", 2}, {"Pt:0", 2},
             {"Pt0/", 3}, {"Pt0:", 3}, {"Pg/", 2}, {"Pg:", 2}, {"Pp01x0000", 4}, {"Pd00610x", 5}};
         for (Object[] row : wrong) {
             Check.due("errorPosition() of " + row[0], withText((String) row[0]).errorPosition(), (Integer) row[1]);

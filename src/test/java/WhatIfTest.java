@@ -1,3 +1,5 @@
+import java.util.Random;
+
 /** Promises 21 to 25: wouldBe, leastSize, quietIn, replay, bestWindow. */
 public final class WhatIfTest {
     public static void main(String[] args) {
@@ -8,6 +10,7 @@ public final class WhatIfTest {
         replayOfFullRecord();
         bestWindow();
         bestWindowTells();
+        bestWindowOfManyRecords();
         Check.finish();
     }
 
@@ -192,31 +195,55 @@ public final class WhatIfTest {
         y.drop(6, 5);
         y.drop(0, 5);
         Check.due("bestWindow(0): hidden drops are lost, so the first window of all", y.bestWindow(0), 0);
-        ImpactPlate z = new ImpactPlate();
-        z.set(4, 5000);
-        z.set(1, 0);
-        z.drop(0, 45);
-        z.drop(4, 44);
-        z.drop(4, 32);
-        Check.due("bestWindow(0)", z.bestWindow(0), best(z, 0));
-        Check.due("bestWindow(1)", z.bestWindow(1), best(z, 1));
-        Check.due("bestWindow(2)", z.bestWindow(2), best(z, 2));
     }
 
-    /** Lets the same three drops fall again on one new plate for each window. */
-    private static int best(ImpactPlate z, int law) {
-        long due = z.trueRain();
+    private static void bestWindowOfManyRecords() {
+        Random dice = new Random(7);
+        for (int i = 0; i < 60; i++) {
+            int[][] drops = new int[1 + dice.nextInt(40)][];
+            for (int j = 0; j < drops.length; j++) {
+                drops[j] = new int[] {dice.nextInt(12), 10 + dice.nextInt(51)};
+            }
+            int damping = 1 + dice.nextInt(9);
+            ImpactPlate x = plateWith(dice.nextInt(21), damping);
+            // these the record forgets
+            for (int j = 0; j < 5; j++) {
+                x.drop(99, 60);
+            }
+            for (int j = 0; j < 40 - drops.length; j++) {
+                x.drop(99, 33);
+            }
+            for (int[] d : drops) {
+                x.drop(d[0], d[1]);
+            }
+            for (int law = 0; law <= 2; law++) {
+                Check.due("bestWindow(" + law + ") of record " + i, x.bestWindow(law), best(drops, damping, law));
+            }
+        }
+    }
+
+    private static ImpactPlate plateWith(int window, int damping) {
+        ImpactPlate p = new ImpactPlate();
+        p.set(4, 5000);
+        p.set(1, window);
+        p.set(2, damping);
+        return p;
+    }
+
+    /** Lets the record's drops fall again on one new plate for each window. */
+    private static int best(int[][] drops, int damping, int law) {
         int best = -1;
         long least = Long.MAX_VALUE;
         for (int window = 0; window <= 20; window++) {
-            ImpactPlate p = new ImpactPlate();
-            p.set(4, 5000);
-            p.set(1, window);
-            p.drop(0, 45);
-            p.drop(4, 44);
-            p.drop(4, 32);
+            ImpactPlate p = plateWith(window, damping);
+            for (int j = 0; j < 40 - drops.length; j++) {
+                p.drop(99, 33);
+            }
+            for (int[] d : drops) {
+                p.drop(d[0], d[1]);
+            }
             p.pass(99);
-            long error = Math.abs(p.rain(law) - due);
+            long error = Math.abs(p.rain(law) - p.trueRain());
             if (error < least) {
                 least = error;
                 best = window;
