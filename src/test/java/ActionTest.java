@@ -125,7 +125,7 @@ public final class ActionTest {
         int[][] wrong = {{-1, 30}, {100, 30}, {0, 0}, {0, 61}, {0, -1}, {-1, 0}, {Integer.MIN_VALUE, 1},
             {Integer.MAX_VALUE, 1}, {0, Integer.MIN_VALUE}, {0, Integer.MAX_VALUE}};
         for (int[] row : wrong) {
-            Check.dueThrow(x, "drop(" + row[0] + ", " + row[1] + ")", IllegalArgumentException.class,
+            Check.dueThrow("drop(" + row[0] + ", " + row[1] + ")", IllegalArgumentException.class,
                     () -> x.drop(row[0], row[1]));
         }
         x.set(3, 1);
@@ -148,7 +148,7 @@ public final class ActionTest {
         Check.due("about(0)", x.about(0), 107);
         Check.due("about(6): closed once", x.about(6), 1);
         for (int ticks : new int[] {0, -1, 100, Integer.MIN_VALUE, Integer.MAX_VALUE}) {
-            Check.dueThrow(x, "pass(" + ticks + ")", IllegalArgumentException.class, () -> x.pass(ticks));
+            Check.dueThrow("pass(" + ticks + ")", IllegalArgumentException.class, () -> x.pass(ticks));
         }
         ImpactPlate y = new ImpactPlate();
         y.set(1, 0);
@@ -180,11 +180,11 @@ public final class ActionTest {
             Check.due("set to the least", x.set(w, least[w]), greatest[w]);
             Check.due("setting", x.setting(w), least[w]);
             for (int v : new int[] {least[w] - 1, greatest[w] + 1, Integer.MIN_VALUE, Integer.MAX_VALUE}) {
-                Check.dueThrow(x, "set(" + w + ", " + v + ")", IllegalArgumentException.class, () -> x.set(w, v));
+                Check.dueThrow("set(" + w + ", " + v + ")", IllegalArgumentException.class, () -> x.set(w, v));
             }
         }
         for (int what : new int[] {-1, 5, Integer.MIN_VALUE, Integer.MAX_VALUE}) {
-            Check.dueThrow(x, "set(" + what + ", 5)", IllegalArgumentException.class, () -> x.set(what, 5));
+            Check.dueThrow("set(" + what + ", 5)", IllegalArgumentException.class, () -> x.set(what, 5));
         }
     }
 
@@ -194,24 +194,24 @@ public final class ActionTest {
         for (int k = 1; k <= 7; k++) {
             int b = k;
             if (b > 1) {
-                Check.dueThrow(x, "setBorder to the one before", IllegalStateException.class,
+                Check.dueThrow("setBorder to the one before", IllegalStateException.class,
                         () -> x.setBorder(b, first[b - 1]));
             }
             if (b < 7) {
-                Check.dueThrow(x, "setBorder to the one behind", IllegalStateException.class,
+                Check.dueThrow("setBorder to the one behind", IllegalStateException.class,
                         () -> x.setBorder(b, first[b + 1]));
             }
             Check.due("setBorder to just above the one before", x.setBorder(b, first[b - 1] + 1), first[b]);
             Check.due("setBorder to just below the one behind", x.setBorder(b, first[b + 1] - 1), first[b - 1] + 1);
             Check.due("setBorder as it was", x.setBorder(b, first[b]), first[b + 1] - 1);
-            Check.dueThrow(x, "setBorder(" + b + ", 0)", IllegalArgumentException.class, () -> x.setBorder(b, 0));
-            Check.dueThrow(x, "setBorder(" + b + ", 5001)", IllegalArgumentException.class,
+            Check.dueThrow("setBorder(" + b + ", 0)", IllegalArgumentException.class, () -> x.setBorder(b, 0));
+            Check.dueThrow("setBorder(" + b + ", 5001)", IllegalArgumentException.class,
                     () -> x.setBorder(b, 5001));
-            Check.dueThrow(x, "setBorder(" + b + ", -1)", IllegalArgumentException.class, () -> x.setBorder(b, -1));
+            Check.dueThrow("setBorder(" + b + ", -1)", IllegalArgumentException.class, () -> x.setBorder(b, -1));
         }
         for (int k : new int[] {0, 8, -1, Integer.MIN_VALUE, Integer.MAX_VALUE}) {
-            Check.dueThrow(x, "setBorder(" + k + ", 5)", IndexOutOfBoundsException.class, () -> x.setBorder(k, 5));
-            Check.dueThrow(x, "setBorder(" + k + ", 0)", IndexOutOfBoundsException.class, () -> x.setBorder(k, 0));
+            Check.dueThrow("setBorder(" + k + ", 5)", IndexOutOfBoundsException.class, () -> x.setBorder(k, 5));
+            Check.dueThrow("setBorder(" + k + ", 0)", IndexOutOfBoundsException.class, () -> x.setBorder(k, 0));
         }
         x.drop(0, 30);
         x.pass(5);
@@ -256,7 +256,7 @@ public final class ActionTest {
             Check.due("undo()", x.undo(), left);
             Check.due("about(0)", x.about(0), 6 + left);
         }
-        Check.dueThrow(x, "undo() of what is forgotten", IllegalStateException.class, x::undo);
+        Check.dueThrow("undo() of what is forgotten", IllegalStateException.class, x::undo);
         x.pass(3);
         Check.due("undo() again", x.undo(), 0);
         Check.due("about(0)", x.about(0), 6);
@@ -271,34 +271,55 @@ public final class ActionTest {
         Check.due("about(0)", x.about(0), 9);
     }
 
-    private static void undoOfEach() {
+    private static final int ACTIONS = 12;
+
+    private static void act(ImpactPlate x, int i) {
+        switch (i) {
+            case 0: x.drop(1, 60); break;
+            case 1: x.drop(0, 5); break;
+            case 2: x.drop(20, 1); break;
+            case 3: x.drop(0, 60); break;
+            case 4: x.pass(50); break;
+            case 5: x.set(2, 4); break;
+            case 6: x.set(2, 7); break;
+            case 7: x.set(4, 500); break;
+            case 8: x.setBorder(3, 300); break;
+            case 9: x.empty(); break;
+            case 10: x.empty(); break;
+            default: x.set(3, 200); break;
+        }
+    }
+
+    private static ImpactPlate afterActions(int actions) {
         ImpactPlate x = new ImpactPlate();
         for (int i = 0; i < 65; i++) {
             x.drop(i % 7, 1 + i * 11 % 60);
         }
-        String[] seen = new String[12];
-        Check.Call[] actions = {() -> x.drop(1, 60), () -> x.drop(0, 5), () -> x.drop(20, 1), () -> x.drop(0, 60),
-            () -> x.pass(50), () -> x.set(2, 4), () -> x.set(2, 7), () -> x.set(4, 500), () -> x.setBorder(3, 300),
-            () -> x.empty(), () -> x.empty(), () -> x.set(3, 200)};
-        for (int i = 0; i < actions.length; i++) {
-            seen[i] = Look.at(x);
-            actions[i].answer();
+        for (int i = 0; i < actions; i++) {
+            act(x, i);
         }
-        for (int i = actions.length - 1; i >= 0; i--) {
-            Check.due("undo() counts each action", x.undo(), i + 2);
-            Check.due("all there is after undo()", Look.at(x), seen[i]);
+        return x;
+    }
+
+    private static void undoOfEach() {
+        for (int left = 0; left < ACTIONS; left++) {
+            ImpactPlate x = afterActions(ACTIONS);
+            for (int i = ACTIONS - 1; i >= left; i--) {
+                Check.due("undo() counts each action", x.undo(), i + 2);
+            }
+            Check.due("all there is after undo()", Look.at(x), Look.at(afterActions(left)));
         }
     }
 
     private static void undoOfThrowing() {
         ImpactPlate x = new ImpactPlate();
         x.pass(5);
-        Check.dueThrow(x, "drop(0, 61)", IllegalArgumentException.class, () -> x.drop(0, 61));
-        Check.dueThrow(x, "pass(0)", IllegalArgumentException.class, () -> x.pass(0));
-        Check.dueThrow(x, "set(0, 41)", IllegalArgumentException.class, () -> x.set(0, 41));
-        Check.dueThrow(x, "setBorder(0, 1)", IndexOutOfBoundsException.class, () -> x.setBorder(0, 1));
-        Check.dueThrow(x, "setBorder(1, 0)", IllegalArgumentException.class, () -> x.setBorder(1, 0));
-        Check.dueThrow(x, "setBorder(1, 300)", IllegalStateException.class, () -> x.setBorder(1, 300));
+        Check.dueThrow("drop(0, 61)", IllegalArgumentException.class, () -> x.drop(0, 61));
+        Check.dueThrow("pass(0)", IllegalArgumentException.class, () -> x.pass(0));
+        Check.dueThrow("set(0, 41)", IllegalArgumentException.class, () -> x.set(0, 41));
+        Check.dueThrow("setBorder(0, 1)", IndexOutOfBoundsException.class, () -> x.setBorder(0, 1));
+        Check.dueThrow("setBorder(1, 0)", IllegalArgumentException.class, () -> x.setBorder(1, 0));
+        Check.dueThrow("setBorder(1, 300)", IllegalStateException.class, () -> x.setBorder(1, 300));
         x.wouldBe(0, 9);
         x.runScript(1, 10010);
         x.simulate(1, 9);

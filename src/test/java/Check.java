@@ -24,21 +24,17 @@ final class Check {
         }
     }
 
-    /** The call must throw exactly this exception, and leave everything that can be seen of x as it was. */
-    static void dueThrow(ImpactPlate x, String call, Class<? extends RuntimeException> kind, Call made) {
-        asked++;
-        String before = Look.at(x);
-        String got;
+    /** The call must throw exactly this exception; RefusalTest tells that it changes nothing. */
+    static void dueThrow(String call, Class<? extends RuntimeException> kind, Call made) {
+        due(call, answer(made), kind.getName());
+    }
+
+    /** What the call answers, or the name of the exception that it throws. */
+    static String answer(Call made) {
         try {
-            got = "answered " + made.answer();
+            return Long.toString(made.answer());
         } catch (RuntimeException e) {
-            got = e.getClass() == kind ? "" : "threw " + e.getClass().getName();
-        }
-        if (!got.isEmpty()) {
-            fail(call + " " + got + ", due is " + kind.getName());
-        }
-        if (!Look.at(x).equals(before)) {
-            fail(call + " threw, but changed " + before + " to " + Look.at(x));
+            return e.getClass().getName();
         }
     }
 

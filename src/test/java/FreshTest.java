@@ -88,11 +88,11 @@ public final class FreshTest {
         Check.due("errorPosition()", x.errorPosition(), 0);
         Check.due("clearText()", x.clearText(), 0);
         Check.due("quietIn(0)", x.quietIn(0), 0);
-        Check.dueThrow(x, "undo()", IllegalStateException.class, x::undo);
-        Check.dueThrow(x, "load()", IllegalStateException.class, x::load);
+        Check.dueThrow("undo()", IllegalStateException.class, x::undo);
+        Check.dueThrow("load()", IllegalStateException.class, x::load);
         for (int slot = 0; slot <= 1; slot++) {
             int s = slot;
-            Check.dueThrow(x, "restore", IllegalStateException.class, () -> x.restore(s));
+            Check.dueThrow("restore", IllegalStateException.class, () -> x.restore(s));
         }
     }
 
@@ -108,7 +108,7 @@ public final class FreshTest {
         Check.due("setting(0) of another object", y.setting(0), 0);
         Check.due("bin(1, 0) of another object", y.bin(1, 0), 100);
         Check.due("clearText() of another object", y.clearText(), 0);
-        Check.dueThrow(y, "restore(0) of another object", IllegalStateException.class, () -> y.restore(0));
+        Check.dueThrow("restore(0) of another object", IllegalStateException.class, () -> y.restore(0));
         Check.due("a drop of the other object", Arrays.asList(y.drop(0, 30), y.about(1)).toString(), "[0, 1]");
     }
 }

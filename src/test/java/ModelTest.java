@@ -3,7 +3,9 @@ import java.util.Random;
 /** All promises at once: long runs of mixed calls, each answered by the plate and by the slow model. */
 public final class ModelTest {
     private static final int RUNS = 150;
+    // what later calls answer is free
     private static final int CALLS = 512;
+    private static final int MOST_CALLS_A_PART = 10;
 
     public static void main(String[] args) {
         for (int run = 0; run < RUNS; run++) {
@@ -17,24 +19,29 @@ public final class ModelTest {
         Model y = new Model();
         // some runs mostly rain, some mostly change, some mostly ask
         int rainy = dice.nextInt(3);
-        for (int i = 0; i < CALLS; i++) {
+        int calls = 0;
+        while (calls < CALLS) {
             int kind = rainy == 0 && dice.nextInt(3) > 0 ? 11 : rainy == 1 && dice.nextInt(2) == 0
                     ? 11 + dice.nextInt(5) : dice.nextInt(28);
             int[] a = {number(dice, kind, 0), number(dice, kind, 1), dice.nextInt(12) == 0 ? 4 : dice.nextInt(4)};
             long big = kind == 24 ? script(dice, a[0]) : dice.nextLong();
-            String call = "run " + run + ", call " + i + ": kind " + kind + " with " + a[0] + ", " + a[1] + ", "
+            String call = "run " + run + ", call " + calls + ": kind " + kind + " with " + a[0] + ", " + a[1] + ", "
                     + a[2] + ", " + big;
-            if (kind == 0 && dice.nextInt(3) > 0) {
-                appendPart(x, y, dice);
+            if (kind == 0 && calls < CALLS - MOST_CALLS_A_PART && dice.nextInt(3) > 0) {
+                calls += appendPart(x, y, dice);
             }
-            Check.due(call, answer(() -> ofPlate(x, kind, a, big)), answer(() -> ofModel(y, kind, a, big)));
+            Check.due(call, Check.answer(() -> ofPlate(x, kind, a, big)),
+                    Check.answer(() -> ofModel(y, kind, a, big)));
+            calls++;
         }
     }
 
-    private static void appendPart(ImpactPlate x, Model y, Random dice) {
+    /** Answers how many calls it made. */
+    private static int appendPart(ImpactPlate x, Model y, Random dice) {
+        int calls = 2;
         if (dice.nextInt(4) == 0) {
-            x.clearText();
-            y.clearText();
+            Check.due("clearText()", x.clearText(), y.clearText());
+            calls++;
         }
         String[] starts = {"P", "d", "p", "t", "w", "g", "Pd"};
         String part = starts[dice.nextInt(starts.length)];
@@ -42,18 +49,11 @@ public final class ModelTest {
                 : part.equals("P") ? "" : part.equals("g") ? String.valueOf(dice.nextInt(10))
                 : String.valueOf(10 + dice.nextInt(35)));
         for (char c : part.toCharArray()) {
-            Check.due("append " + c, answer(() -> x.append(c)), answer(() -> y.append(c)));
+            Check.due("append " + c, Check.answer(() -> x.append(c)), Check.answer(() -> y.append(c)));
         }
         Check.due("errorPosition()", x.errorPosition(), y.errorPosition());
-        Check.due("load()", answer(x::load), answer(y::load));
-    }
-
-    private static String answer(Check.Call call) {
-        try {
-            return Long.toString(call.answer());
-        } catch (RuntimeException e) {
-            return e.getClass().getName();
-        }
+        Check.due("load()", Check.answer(x::load), Check.answer(y::load));
+        return calls + part.length();
     }
 
     private static int number(Random dice, int kind, int place) {

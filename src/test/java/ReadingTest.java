@@ -15,21 +15,8 @@ public final class ReadingTest {
         Check.finish();
     }
 
-    // fates: counted, merged, faint, hidden, counted, merged, merged
-    private static ImpactPlate sevenDrops() {
-        ImpactPlate x = new ImpactPlate();
-        x.drop(5, 50);
-        x.drop(2, 2);
-        x.drop(1, 3);
-        x.drop(0, 49);
-        x.drop(1, 40);
-        x.drop(0, 40);
-        x.drop(2, 60);
-        return x;
-    }
-
     private static void about() {
-        ImpactPlate x = sevenDrops();
+        ImpactPlate x = Plates.sevenDrops();
         int[] want = {11, 7, 2, 3, 1, 1, 1, 0, 3000, 7, 7, 1};
         for (int what = 0; what <= 11; what++) {
             Check.due("about(" + what + ")", x.about(what), want[what]);
@@ -41,7 +28,7 @@ public final class ReadingTest {
         x.pass(1);
         Check.due("about(8) one damping later", x.about(8), 1500);
         for (int what : new int[] {-1, 12, Integer.MIN_VALUE, Integer.MAX_VALUE}) {
-            Check.dueThrow(x, "about(" + what + ")", IllegalArgumentException.class, () -> x.about(what));
+            Check.dueThrow("about(" + what + ")", IllegalArgumentException.class, () -> x.about(what));
         }
         x.empty();
         Check.due("about(6) after empty()", x.about(6), 0);
@@ -71,12 +58,12 @@ public final class ReadingTest {
             Check.due("setting(" + what + ")", x.setting(what), want[what]);
         }
         for (int what : new int[] {-1, 5, Integer.MIN_VALUE, Integer.MAX_VALUE}) {
-            Check.dueThrow(x, "setting(" + what + ")", IllegalArgumentException.class, () -> x.setting(what));
+            Check.dueThrow("setting(" + what + ")", IllegalArgumentException.class, () -> x.setting(what));
         }
     }
 
     private static void bin() {
-        ImpactPlate x = sevenDrops();
+        ImpactPlate x = Plates.sevenDrops();
         x.pass(9);
         int[][] want = {{0, 99, 0, 0, 0}, {100, 224, 0, 0, 0}, {225, 399, 0, 0, 0}, {400, 899, 0, 0, 0},
             {900, 1599, 0, 0, 0}, {1600, 2499, 0, 0, 0}, {2500, 3599, 2, 1, 5}, {3600, 5000, 0, 0, 0}};
@@ -86,11 +73,11 @@ public final class ReadingTest {
             }
         }
         for (int k : new int[] {-1, 8, Integer.MIN_VALUE, Integer.MAX_VALUE}) {
-            Check.dueThrow(x, "bin(" + k + ", 0)", IndexOutOfBoundsException.class, () -> x.bin(k, 0));
-            Check.dueThrow(x, "bin(" + k + ", 5)", IndexOutOfBoundsException.class, () -> x.bin(k, 5));
+            Check.dueThrow("bin(" + k + ", 0)", IndexOutOfBoundsException.class, () -> x.bin(k, 0));
+            Check.dueThrow("bin(" + k + ", 5)", IndexOutOfBoundsException.class, () -> x.bin(k, 5));
         }
         for (int what : new int[] {-1, 5, Integer.MIN_VALUE, Integer.MAX_VALUE}) {
-            Check.dueThrow(x, "bin(0, " + what + ")", IllegalArgumentException.class, () -> x.bin(0, what));
+            Check.dueThrow("bin(0, " + what + ")", IllegalArgumentException.class, () -> x.bin(0, what));
         }
         pulsesOnTheBorders();
     }
@@ -138,27 +125,27 @@ public final class ReadingTest {
             Check.due("pulse(" + what + ")", x.pulse(what), three[what]);
         }
         for (int what : new int[] {-1, 4, Integer.MIN_VALUE, Integer.MAX_VALUE}) {
-            Check.dueThrow(x, "pulse(" + what + ")", IllegalArgumentException.class, () -> x.pulse(what));
+            Check.dueThrow("pulse(" + what + ")", IllegalArgumentException.class, () -> x.pulse(what));
         }
         x.pass(99);
         for (int what = 0; what <= 3; what++) {
             Check.due("pulse(" + what + ") of none", x.pulse(what), -9);
         }
-        Check.dueThrow(x, "pulse(4) of none", IllegalArgumentException.class, () -> x.pulse(4));
+        Check.dueThrow("pulse(4) of none", IllegalArgumentException.class, () -> x.pulse(4));
         x.drop(0, 20);
         Check.due("pulse(2) of the next", x.pulse(2), 1);
         Check.due("pulse(3) of the next", x.pulse(3), 0);
     }
 
     private static void fate() {
-        ImpactPlate x = sevenDrops();
+        ImpactPlate x = Plates.sevenDrops();
         int[] want = {1, 1, 0, 2, 3, 1, 0, -9, -9};
         for (int i = 0; i < want.length; i++) {
             Check.due("fate(" + i + ")", x.fate(i), want[i]);
         }
         Check.due("fate of far away", x.fate(Integer.MAX_VALUE), -9);
         for (int i : new int[] {-1, Integer.MIN_VALUE}) {
-            Check.dueThrow(x, "fate(" + i + ")", IllegalArgumentException.class, () -> x.fate(i));
+            Check.dueThrow("fate(" + i + ")", IllegalArgumentException.class, () -> x.fate(i));
         }
         ImpactPlate y = new ImpactPlate();
         y.drop(0, 9);
@@ -173,13 +160,13 @@ public final class ReadingTest {
     }
 
     private static void longest() {
-        ImpactPlate x = sevenDrops();
+        ImpactPlate x = Plates.sevenDrops();
         int[] want = {1, 2, 1, 1};
         for (int fate = 0; fate <= 3; fate++) {
             Check.due("longest(" + fate + ")", x.longest(fate), want[fate]);
         }
         for (int fate : new int[] {-1, 4, Integer.MIN_VALUE, Integer.MAX_VALUE}) {
-            Check.dueThrow(x, "longest(" + fate + ")", IllegalArgumentException.class, () -> x.longest(fate));
+            Check.dueThrow("longest(" + fate + ")", IllegalArgumentException.class, () -> x.longest(fate));
         }
         ImpactPlate y = new ImpactPlate();
         for (int i = 0; i < 3; i++) {
@@ -196,7 +183,7 @@ public final class ReadingTest {
     }
 
     private static void pattern() {
-        ImpactPlate x = sevenDrops();
+        ImpactPlate x = Plates.sevenDrops();
         int[][] want = {{1, 0, 2}, {1, 1, 3}, {1, 2, 1}, {1, 3, 1}, {2, 1, 2}, {2, 11, 1}, {2, 10, 0}, {2, 13, 1},
             {2, 31, 0}, {3, 132, 1}, {3, 11, 1}, {7, 132011, 1}, {8, 132011, 0}, {7, 132010, 0}, {4, 132, 1}};
         for (int[] row : want) {
@@ -215,12 +202,12 @@ public final class ReadingTest {
     }
 
     private static void patternRange() {
-        ImpactPlate x = sevenDrops();
+        ImpactPlate x = Plates.sevenDrops();
         int[][] wrong = {{0, 0}, {9, 0}, {-1, 0}, {Integer.MIN_VALUE, 0}, {Integer.MAX_VALUE, 0}, {1, -1}, {1, 4},
             {1, 10}, {2, 40}, {2, 4}, {2, 100}, {2, -11}, {8, 100000000}, {8, 4}, {8, 40000000}, {8, 33333334},
             {8, Integer.MAX_VALUE}, {8, Integer.MIN_VALUE}, {3, 1011}};
         for (int[] row : wrong) {
-            Check.dueThrow(x, "pattern(" + row[0] + ", " + row[1] + ")", IllegalArgumentException.class,
+            Check.dueThrow("pattern(" + row[0] + ", " + row[1] + ")", IllegalArgumentException.class,
                     () -> x.pattern(row[0], row[1]));
         }
     }
@@ -243,7 +230,7 @@ public final class ReadingTest {
         x.setBorder(6, 2499);
         Check.due("rain(0) by the ends as they are now", x.rain(0), 103375 + 2 * 117649);
         for (int law : new int[] {-1, 3, Integer.MIN_VALUE, Integer.MAX_VALUE}) {
-            Check.dueThrow(x, "rain(" + law + ")", IllegalArgumentException.class, () -> x.rain(law));
+            Check.dueThrow("rain(" + law + ")", IllegalArgumentException.class, () -> x.rain(law));
         }
         ImpactPlate y = new ImpactPlate();
         y.set(4, 5000);
@@ -264,7 +251,7 @@ public final class ReadingTest {
     }
 
     private static void trueRain() {
-        ImpactPlate x = sevenDrops();
+        ImpactPlate x = Plates.sevenDrops();
         Check.due("trueRain()", x.trueRain(), 125000 + 8 + 27 + 117649 + 64000 + 64000 + 216000);
         x.empty();
         Check.due("trueRain() after empty()", x.trueRain(), 586684);

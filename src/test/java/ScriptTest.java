@@ -24,7 +24,7 @@ public final class ScriptTest {
             {1, 100000}, {2, 10000000000L}, {3, 1000000000000000L}, {3, Long.MAX_VALUE}, {1, Long.MIN_VALUE},
             {1, -10010}, {0, -1}};
         for (long[] row : wrong) {
-            Check.dueThrow(x, "runScript(" + row[0] + ", " + row[1] + ")", IllegalArgumentException.class,
+            Check.dueThrow("runScript(" + row[0] + ", " + row[1] + ")", IllegalArgumentException.class,
                     () -> x.runScript((int) row[0], row[1]));
         }
         due(x, 1, 99999, 0);
@@ -177,7 +177,7 @@ public final class ScriptTest {
     private static void simulate() {
         ImpactPlate x = new ImpactPlate();
         for (int m : new int[] {0, -1, 100, Integer.MIN_VALUE, Integer.MAX_VALUE}) {
-            Check.dueThrow(x, "simulate(5, " + m + ")", IllegalArgumentException.class, () -> x.simulate(5, m));
+            Check.dueThrow("simulate(5, " + m + ")", IllegalArgumentException.class, () -> x.simulate(5, m));
         }
         long[] seeds = {0, 1, -1, 5, 42, -77, Long.MIN_VALUE, Long.MAX_VALUE, 1L << 40, 987654321987654321L};
         for (long seed : seeds) {

@@ -12,27 +12,32 @@ public final class SlotTest {
         ImpactPlate x = new ImpactPlate();
         x.drop(3, 30);
         for (int slot : new int[] {-1, 2, Integer.MIN_VALUE, Integer.MAX_VALUE}) {
-            Check.dueThrow(x, "save(" + slot + ")", IndexOutOfBoundsException.class, () -> x.save(slot));
-            Check.dueThrow(x, "restore(" + slot + ")", IndexOutOfBoundsException.class, () -> x.restore(slot));
+            Check.dueThrow("save(" + slot + ")", IndexOutOfBoundsException.class, () -> x.save(slot));
+            Check.dueThrow("restore(" + slot + ")", IndexOutOfBoundsException.class, () -> x.restore(slot));
         }
-        Check.dueThrow(x, "restore(0)", IllegalStateException.class, () -> x.restore(0));
+        Check.dueThrow("restore(0)", IllegalStateException.class, () -> x.restore(0));
         x.save(1);
-        Check.dueThrow(x, "restore(0)", IllegalStateException.class, () -> x.restore(0));
+        Check.dueThrow("restore(0)", IllegalStateException.class, () -> x.restore(0));
         Check.due("restore(1)", x.restore(1), 3);
     }
 
+    // 65 drops, the last at the tick 7 * 36 + 0 + 1
+    private static ImpactPlate rained() {
+        ImpactPlate x = new ImpactPlate();
+        for (int i = 0; i < 65; i++) {
+            x.drop(i % 9, 1 + i * 7 % 60);
+        }
+        x.set(0, 13);
+        x.set(4, 900);
+        x.setBorder(2, 333);
+        return x;
+    }
+
     private static void saveAndRestore() {
+        String saved = Look.at(rained());
         for (int slot = 0; slot <= 1; slot++) {
-            ImpactPlate x = new ImpactPlate();
-            for (int i = 0; i < 65; i++) {
-                x.drop(i % 9, 1 + i * 7 % 60);
-            }
-            x.set(0, 13);
-            x.set(4, 900);
-            x.setBorder(2, 333);
-            String saved = Look.at(x);
-            int tick = x.about(0);
-            Check.due("save", x.save(slot), tick);
+            ImpactPlate x = rained();
+            Check.due("save", x.save(slot), 253);
             for (int i = 0; i < 2; i++) {
                 x.drop(9, 60);
                 x.set(1, 20);
@@ -43,12 +48,11 @@ public final class SlotTest {
                 x.empty();
                 x.pass(30);
                 x.append('P');
-                Check.due("restore", x.restore(slot), tick);
+                Check.due("restore", x.restore(slot), 253);
                 Check.due("clearText(): the text is no part of the state", x.clearText(), 1);
                 Check.due("all there is after restore", Look.at(x), saved);
             }
-            ImpactPlate y = x;
-            Check.dueThrow(y, "undo() after restore", IllegalStateException.class, y::undo);
+            Check.dueThrow("undo() after restore", IllegalStateException.class, x::undo);
         }
     }
 
@@ -62,7 +66,7 @@ public final class SlotTest {
         Check.due("save forgets nothing", x.undo(), 0);
         x.pass(7);
         Check.due("restore(1)", x.restore(1), 1);
-        Check.dueThrow(x, "undo()", IllegalStateException.class, x::undo);
+        Check.dueThrow("undo()", IllegalStateException.class, x::undo);
         x.pass(1);
         Check.due("undo() of what came after", x.undo(), 0);
         Check.due("about(0)", x.about(0), 1);

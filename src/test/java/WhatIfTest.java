@@ -37,7 +37,7 @@ public final class WhatIfTest {
         int[][] wrong = {{-1, 30}, {100, 30}, {0, 0}, {0, 61}, {-1, 61}, {Integer.MIN_VALUE, 1},
             {Integer.MAX_VALUE, 1}, {0, Integer.MIN_VALUE}, {0, Integer.MAX_VALUE}};
         for (int[] row : wrong) {
-            Check.dueThrow(x, "wouldBe(" + row[0] + ", " + row[1] + ")", IllegalArgumentException.class,
+            Check.dueThrow("wouldBe(" + row[0] + ", " + row[1] + ")", IllegalArgumentException.class,
                     () -> x.wouldBe(row[0], row[1]));
         }
     }
@@ -71,7 +71,7 @@ public final class WhatIfTest {
         y.drop(97, 60);
         Check.due("leastSize(0): a drop of 3600", y.leastSize(0), 60);
         for (int ticks : new int[] {-1, 100, Integer.MIN_VALUE, Integer.MAX_VALUE}) {
-            Check.dueThrow(y, "leastSize(" + ticks + ")", IllegalArgumentException.class,
+            Check.dueThrow("leastSize(" + ticks + ")", IllegalArgumentException.class,
                     () -> y.leastSize(ticks));
         }
     }
@@ -87,7 +87,7 @@ public final class WhatIfTest {
         x.pass(45);
         Check.due("quietIn(0) in silence", x.quietIn(0), 0);
         for (int level : new int[] {-1, 5001, Integer.MIN_VALUE, Integer.MAX_VALUE}) {
-            Check.dueThrow(x, "quietIn(" + level + ")", IllegalArgumentException.class, () -> x.quietIn(level));
+            Check.dueThrow("quietIn(" + level + ")", IllegalArgumentException.class, () -> x.quietIn(level));
         }
         ImpactPlate y = new ImpactPlate();
         y.set(4, 5000);
@@ -134,7 +134,7 @@ public final class WhatIfTest {
             {Integer.MIN_VALUE, 4, 0}, {Integer.MAX_VALUE, 4, 0}, {3, Integer.MIN_VALUE, 0},
             {3, Integer.MAX_VALUE, 0}, {3, 4, Integer.MIN_VALUE}, {3, 4, Integer.MAX_VALUE}};
         for (int[] row : wrong) {
-            Check.dueThrow(x, "replay(" + row[0] + ", " + row[1] + ", " + row[2] + ")",
+            Check.dueThrow("replay(" + row[0] + ", " + row[1] + ", " + row[2] + ")",
                     IllegalArgumentException.class, () -> x.replay(row[0], row[1], row[2]));
         }
     }
@@ -172,7 +172,7 @@ public final class WhatIfTest {
             Check.due("bestWindow of one drop: the smallest", x.bestWindow(law), 0);
         }
         for (int law : new int[] {-1, 3, Integer.MIN_VALUE, Integer.MAX_VALUE}) {
-            Check.dueThrow(x, "bestWindow(" + law + ")", IllegalArgumentException.class, () -> x.bestWindow(law));
+            Check.dueThrow("bestWindow(" + law + ")", IllegalArgumentException.class, () -> x.bestWindow(law));
         }
         String before = Look.at(x);
         x.bestWindow(1);
