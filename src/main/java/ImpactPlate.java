@@ -708,10 +708,11 @@ public final class ImpactPlate {
         }
 
         private void strike(int wanted) {
-            if (wanted > settings[SATURATION]) {
+            amplitude = wanted;
+            if (amplitude > settings[SATURATION]) {
+                amplitude = settings[SATURATION];
                 saturated = true;
             }
-            amplitude = Math.min(wanted, settings[SATURATION]);
         }
 
         void closePulse() {
