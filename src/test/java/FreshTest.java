@@ -1,29 +1,28 @@
+import java.io.IOException;
 import java.lang.reflect.Constructor;
 import java.lang.reflect.Field;
 import java.lang.reflect.Method;
 import java.lang.reflect.Modifier;
-import java.util.ArrayList;
 import java.util.Arrays;
-import java.util.List;
 import java.util.TreeSet;
+import java.util.stream.Collectors;
 
 /** The public face and promise 1: a new object. */
 public final class FreshTest {
-    public static void main(String[] args) {
+    public static void main(String[] args) throws IOException {
         face();
         newObject();
         objectsAreApart();
         Check.finish();
     }
 
-    private static void face() {
-        List<String> wanted = new ArrayList<>(List.of(
-                "int append(int)", "int clearText()", "int errorPosition()", "int load()", "int about(int)",
-                "int setting(int)", "int bin(int,int)", "int pulse(int)", "int fate(int)", "int longest(int)",
-                "int pattern(int,int)", "long rain(int)", "long trueRain()", "int drop(int,int)", "int pass(int)",
-                "int set(int,int)", "int setBorder(int,int)", "int empty()", "int undo()", "int wouldBe(int,int)",
-                "int leastSize(int)", "int quietIn(int)", "int replay(int,int,int)", "int bestWindow(int)",
-                "int runScript(int,long)", "int simulate(long,int)", "int save(int)", "int restore(int)"));
+    private static void face() throws IOException {
+        TreeSet<String> wanted = new TreeSet<>();
+        for (Face.Call call : Face.calls()) {
+            // the compiled class does not tell the names of parameters
+            wanted.add(call.signature().replaceAll("(int|long) \\w+(?=[,)])", "$1").replace(", ", ",")
+                    + " throws " + call.exceptions());
+        }
         TreeSet<String> found = new TreeSet<>();
         TreeSet<String> privateNames = new TreeSet<>();
         TreeSet<String> publicNames = new TreeSet<>();
@@ -32,14 +31,11 @@ public final class FreshTest {
                 privateNames.add(m.getName());
             } else if (!m.isSynthetic()) {
                 publicNames.add(m.getName());
-                StringBuilder kinds = new StringBuilder();
-                for (Class<?> kind : m.getParameterTypes()) {
-                    kinds.append(kinds.length() == 0 ? "" : ",").append(kind.getName());
-                }
-                found.add(m.getReturnType().getName() + " " + m.getName() + "(" + kinds + ")");
+                found.add(m.getReturnType().getName() + " " + m.getName() + "(" + namesOf(m.getParameterTypes(), ",")
+                        + ") throws [" + namesOf(m.getExceptionTypes(), ", ") + "]");
             }
         }
-        Check.due("the methods of the face", found.toString(), new TreeSet<>(wanted).toString());
+        Check.due("the methods of the face", found.toString(), wanted.toString());
         privateNames.retainAll(publicNames);
         Check.due("private methods with a public one's name", privateNames.toString(), "[]");
         for (Constructor<?> c : ImpactPlate.class.getDeclaredConstructors()) {
@@ -54,6 +50,10 @@ public final class FreshTest {
                 ImpactPlate.class.getModifiers() & (Modifier.PUBLIC | Modifier.FINAL),
                 Modifier.PUBLIC | Modifier.FINAL);
         Check.due("NONE", ImpactPlate.NONE, -9);
+    }
+
+    private static String namesOf(Class<?>[] kinds, String between) {
+        return Arrays.stream(kinds).map(Class::getSimpleName).collect(Collectors.joining(between));
     }
 
     private static void newObject() {
